@@ -122,6 +122,15 @@ public final class CuttingTest {
         FrozenDistricts over = Check.made(y -> draftAll(y, "......" + "3333.." + "......" + "......" + "......" + ".....0"));
         Check.due("7: over another draft", over.snake(false), 1);
         drafted("7: over another draft", over, ROWS);
+        for (int cell = 0; cell < 36; cell += 35) {
+            int emptied = cell;
+            FrozenDistricts almost = Check.made(y -> {
+                y.snake(false);
+                y.draft(emptied, -1);
+            });
+            Check.due("7: only the cell " + cell + " differs", almost.snake(false), 1);
+            drafted("7: only the cell " + cell + " differs", almost, ROWS);
+        }
     }
 
     private static void snakeAroundFrozenCells() {
@@ -165,6 +174,12 @@ public final class CuttingTest {
         });
         Check.due("8: over another draft", other.adopt(), 3);
         drafted("8: over another draft", other, "000000" + "...000" + "......" + "111111" + "111222" + "222222");
+        FrozenDistricts almost = Check.made(y -> {
+            freezePartOne(y);
+            y.adopt();
+            y.draft(0, -1);
+        });
+        Check.due("8: only a cell differs", almost.adopt(), 3);
         FrozenDistricts back = Check.made(y -> {
             freezePartOne(y);
             y.adopt();

@@ -132,6 +132,14 @@ public final class TellingTest {
             }
         });
         told("18: a chessboard", board, 1, new int[] {18, 18, 72, 838, 1, 1});
+        FrozenDistricts close = Check.made(y -> {
+            y.setVotes(0, 3, 2);
+            y.setVotes(1, 4, 5);
+            y.draft(0, 0);
+            y.draft(1, 1);
+        });
+        told("18: won by one", close, 0, new int[] {1, 1, 4, 1001, 0, 0});
+        told("18: lost by one", close, 1, new int[] {1, 1, 4, 999, 1, 1});
     }
 
     private static void partOfCut() {
