@@ -1,5 +1,4 @@
 import java.util.ArrayList;
-import java.util.Arrays;
 import java.util.List;
 
 /** What the project's tests share: answers are compared, and each one that is not due is printed. */
@@ -40,62 +39,81 @@ final class Check {
 
     /** The call answers an error or NONE, and an object that was called so is like one that was not. */
     static void refused(String what, Setup setup, Call call, int want) {
-        FrozenDistricts called = made(setup);
-        due(what, call.on(called), want);
-        same(what + " changes nothing", called, made(setup));
+        due(what, call.on(made(setup)), want);
+        same(what + " changes nothing", x -> {
+            setup.on(x);
+            call.on(x);
+        }, setup);
     }
 
-    /** Everything that is told of both is the same, also after their latest act is undone. */
-    static void same(String what, FrozenDistricts x, FrozenDistricts y) {
-        compare(what, look(x), look(y));
-        due(what + ", undo()", x.undo(), y.undo());
-        compare(what + ", after undo()", shortLook(x), shortLook(y));
+    /** Two ways to make an object come to the same: its state, its history, its text and its snapshot. */
+    static void same(String what, Setup one, Setup other) {
+        probed(what + ", the state", one, other, x -> 0);
+        probed(what + ", the latest state", one, other, FrozenDistricts::undo);
+        probed(what + ", the oldest state", one, other, Check::undoAll);
+        probed(what + ", the text", one, other, x -> x.readVotes(0));
+        probed(what + ", the text and one more", one, other, x -> x.type('1') + 1000 * x.readVotes(0));
+        probed(what + ", the snapshot", one, other, FrozenDistricts::restore);
+        probed(what + ", the rest", one, other, FrozenDistricts::adopt);
     }
 
-    private static void compare(String what, List<Integer> x, List<Integer> y) {
-        if (x.equals(y)) {
-            passed++;
-            return;
+    private static void probed(String what, Setup one, Setup other, Call probe) {
+        FrozenDistricts x = made(one);
+        FrozenDistricts y = made(other);
+        due(what, probe.on(x), probe.on(y));
+        alike(what, x, y);
+    }
+
+    /** All that is told of both is the same. */
+    static void alike(String what, FrozenDistricts x, FrozenDistricts y) {
+        List<String> told = look(x);
+        List<String> want = look(y);
+        for (int each = 0; each < told.size(); each++) {
+            if (!told.get(each).equals(want.get(each))) {
+                failed++;
+                System.out.println("FAILED " + what + ": tells " + told.get(each) + ", due is " + want.get(each));
+                return;
+            }
         }
-        failed++;
-        System.out.println("FAILED " + what + ": tells " + x + ", due is " + y);
+        passed++;
+    }
+
+    /** Undoes all there is; answers how many acts that were. */
+    static int undoAll(FrozenDistricts x) {
+        int undone = 0;
+        while (undone < 9 && x.undo() != FrozenDistricts.NONE) {
+            undone++;
+        }
+        return undone;
     }
 
     /** All that an object tells, in 332 calls. */
-    static List<Integer> look(FrozenDistricts x) {
-        List<Integer> told = new ArrayList<>();
+    static List<String> look(FrozenDistricts x) {
+        List<String> told = new ArrayList<>();
         for (int cell = 0; cell < 36; cell++) {
             for (int what = 0; what < 5; what++) {
-                told.add(x.cell(cell, what));
+                told.add("cell(" + cell + ", " + what + ") = " + x.cell(cell, what));
             }
         }
         for (int number = 0; number < 9; number++) {
             for (int what = 0; what < 6; what++) {
-                told.add(x.part(number, what));
+                told.add("part(" + number + ", " + what + ") = " + x.part(number, what));
             }
             for (int what = 0; what < 8; what++) {
-                told.add(x.district(number, what));
+                told.add("district(" + number + ", " + what + ") = " + x.district(number, what));
             }
         }
-        told.addAll(Arrays.asList(x.why(0), x.why(1), x.advice(), x.fairness()));
+        for (int what = 0; what < 2; what++) {
+            told.add("why(" + what + ") = " + x.why(what));
+        }
+        told.add("advice() = " + x.advice());
+        told.add("fairness() = " + x.fairness());
         for (int what = 0; what < 5; what++) {
-            told.add(x.party(0, what));
-            told.add(x.party(1, what));
+            told.add("party(0, " + what + ") = " + x.party(0, what));
+            told.add("party(1, " + what + ") = " + x.party(1, what));
         }
         for (int what = 0; what < 12; what++) {
-            told.add(x.count(what));
-        }
-        return told;
-    }
-
-    private static List<Integer> shortLook(FrozenDistricts x) {
-        List<Integer> told = new ArrayList<>();
-        for (int cell = 0; cell < 36; cell++) {
-            told.add(10 * x.cell(cell, 0) + x.cell(cell, 1));
-            told.add(100 * x.cell(cell, 2) + x.cell(cell, 3));
-        }
-        for (int what = 0; what < 12; what++) {
-            told.add(x.count(what));
+            told.add("count(" + what + ") = " + x.count(what));
         }
         return told;
     }

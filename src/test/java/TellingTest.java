@@ -425,14 +425,15 @@ public final class TellingTest {
             TellingTest::vote, TellingTest::voteAndPropose, TellingTest::freezeThree, x -> x.draft(3, 3),
         };
         for (Check.Setup setup : setups) {
-            FrozenDistricts x = Check.made(setup);
-            x.why(1);
-            x.advice();
-            x.part(0, 1);
-            x.part(0, 9);
-            x.cell(0, 4);
-            x.party(0, 4);
-            Check.same("17 to 24: telling changes nothing", x, Check.made(setup));
+            Check.same("17 to 24: telling changes nothing", x -> {
+                setup.on(x);
+                x.why(1);
+                x.advice();
+                x.part(0, 1);
+                x.part(0, 9);
+                x.cell(0, 4);
+                x.party(0, 4);
+            }, setup);
         }
     }
 }
