@@ -12,6 +12,14 @@ final class Check {
         int on(FrozenDistricts x);
     }
 
+    private interface Telling {
+        Call of(int number, int what);
+    }
+
+    private record Told(String name, Call call) {
+    }
+
+    private static final List<Told> TOLD = allThatIsTold();
     private static int passed = 0;
     private static int failed = 0;
 
@@ -58,20 +66,25 @@ final class Check {
     }
 
     private static void probed(String what, Setup one, Setup other, Call probe) {
-        FrozenDistricts x = made(one);
-        FrozenDistricts y = made(other);
-        due(what, probe.on(x), probe.on(y));
-        alike(what, x, y);
+        for (int way = 0; way < 2; way++) {
+            FrozenDistricts x = made(one);
+            FrozenDistricts y = made(other);
+            due(what, probe.on(x), probe.on(y));
+            // A call that wrongly changes something does so in both, but in one of two orders behind its telling.
+            alike(what, look(x, way == 1), look(y, way == 1), way == 1);
+        }
     }
 
     /** All that is told of both is the same. */
     static void alike(String what, FrozenDistricts x, FrozenDistricts y) {
-        List<String> told = look(x);
-        List<String> want = look(y);
-        for (int each = 0; each < told.size(); each++) {
+        alike(what, look(x, false), look(y, false), false);
+    }
+
+    private static void alike(String what, List<Integer> told, List<Integer> want, boolean backwards) {
+        for (int each = 0; each < TOLD.size(); each++) {
             if (!told.get(each).equals(want.get(each))) {
-                failed++;
-                System.out.println("FAILED " + what + ": tells " + told.get(each) + ", due is " + want.get(each));
+                String name = TOLD.get(backwards ? TOLD.size() - 1 - each : each).name;
+                due(what + ", " + name, told.get(each), want.get(each));
                 return;
             }
         }
@@ -87,35 +100,40 @@ final class Check {
         return undone;
     }
 
-    /** All that an object tells, in 332 calls. */
-    static List<String> look(FrozenDistricts x) {
-        List<String> told = new ArrayList<>();
-        for (int cell = 0; cell < 36; cell++) {
-            for (int what = 0; what < 5; what++) {
-                told.add("cell(" + cell + ", " + what + ") = " + x.cell(cell, what));
-            }
-        }
-        for (int number = 0; number < 9; number++) {
-            for (int what = 0; what < 6; what++) {
-                told.add("part(" + number + ", " + what + ") = " + x.part(number, what));
-            }
-            for (int what = 0; what < 8; what++) {
-                told.add("district(" + number + ", " + what + ") = " + x.district(number, what));
-            }
-        }
-        for (int what = 0; what < 2; what++) {
-            told.add("why(" + what + ") = " + x.why(what));
-        }
-        told.add("advice() = " + x.advice());
-        told.add("fairness() = " + x.fairness());
-        for (int what = 0; what < 5; what++) {
-            told.add("party(0, " + what + ") = " + x.party(0, what));
-            told.add("party(1, " + what + ") = " + x.party(1, what));
-        }
-        for (int what = 0; what < 12; what++) {
-            told.add("count(" + what + ") = " + x.count(what));
+    /** The answers of all calls that tell, in their order or the other way round. */
+    static List<Integer> look(FrozenDistricts x, boolean backwards) {
+        List<Integer> told = new ArrayList<>();
+        for (int each = 0; each < TOLD.size(); each++) {
+            told.add(TOLD.get(backwards ? TOLD.size() - 1 - each : each).call.on(x));
         }
         return told;
+    }
+
+    /** All 332 calls that tell. */
+    private static List<Told> allThatIsTold() {
+        List<Told> all = new ArrayList<>();
+        for (int what = 0; what < 12; what++) {
+            int each = what;
+            all.add(new Told("count(" + what + ")", x -> x.count(each)));
+        }
+        // The targets come near to one end, and the votes near to the other one.
+        tell(all, "party", 2, new int[] {0, 1, 2, 3, 4}, (number, what) -> x -> x.party(number, what));
+        tell(all, "part", 9, new int[] {0, 1, 2, 3, 4, 5}, (number, what) -> x -> x.part(number, what));
+        tell(all, "district", 9, new int[] {0, 1, 2, 3, 4, 5, 6, 7}, (number, what) -> x -> x.district(number, what));
+        all.add(new Told("why(0)", x -> x.why(0)));
+        all.add(new Told("why(1)", x -> x.why(1)));
+        all.add(new Told("advice()", FrozenDistricts::advice));
+        all.add(new Told("fairness()", FrozenDistricts::fairness));
+        tell(all, "cell", 36, new int[] {4, 3, 2, 1, 0}, (number, what) -> x -> x.cell(number, what));
+        return all;
+    }
+
+    private static void tell(List<Told> all, String name, int numbers, int[] whats, Telling telling) {
+        for (int what : whats) {
+            for (int number = 0; number < numbers; number++) {
+                all.add(new Told(name + "(" + number + ", " + what + ")", telling.of(number, what)));
+            }
+        }
     }
 
     static void write(FrozenDistricts x, String text) {

@@ -445,6 +445,7 @@ public final class DraftEdgesTest {
             y.undo();
         });
         Check.due("of the latest cut of what is undone to", undone.adopt(), 3);
+        Check.due("of the latest cut of what is undone to, its last part", undone.cell(24, 2), 2);
     }
 
     // "Returns how many parts there are"

@@ -120,18 +120,18 @@ public final class HistoryEdgesTest {
     // "undo() removes and restores the latest one": each act is taken back wholly
     private static void eachActIsUndone() {
         for (Map.Entry<String, Check.Call> act : actsOfDrafting().entrySet()) {
-            Check.Setup before = richly();
-            FrozenDistricts x = Check.made(before);
+            FrozenDistricts x = Check.made(richly());
             Check.isTrue(act.getKey() + " is done", act.getValue().on(x) > -2);
             Check.due(act.getKey() + " is undone", x.undo(), 3);
-            FrozenDistricts y = Check.made(z -> {
-                before.on(z);
-                z.begin(9);
-                z.undo();
+            Check.same(act.getKey() + " is undone wholly", y -> {
+                richly().on(y);
+                act.getValue().on(y);
+                y.undo();
+            }, y -> {
+                richly().on(y);
+                y.begin(9);
+                y.undo();
             });
-            Check.alike(act.getKey() + " is undone wholly", x, y);
-            Check.due(act.getKey() + ", what is left of the latest cut", x.adopt(), y.adopt());
-            Check.alike(act.getKey() + ", it is adopted", x, y);
         }
         for (int part = 0; part < 3; part++) {
             Check.Setup before = x -> {

@@ -89,7 +89,7 @@ public final class HistoryTest {
         x.type('1');
         x.clearText();
         x.keep();
-        Check.look(x);
+        Check.look(x, false);
         Check.due("14: what is no act records nothing", x.count(10), 0);
         FrozenDistricts y = Check.made(z -> {
             z.setTarget(0, 1);

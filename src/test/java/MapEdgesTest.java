@@ -243,12 +243,10 @@ public final class MapEdgesTest {
                 Check.due(what + ", to cut", x.count(4), 0);
                 Check.due(what + ", the player", x.count(5), 0);
                 Check.due(what + ", no latest cut", x.adopt(), -4);
-                Check.alike(what, x, Check.made(y -> {
-                    for (int act = 0; act < 4; act++) {
+                int states = x.count(10);
+                Check.alike(what + ", like a new object", x, Check.made(y -> {
+                    for (int act = 0; act < states; act++) {
                         y.begin(n);
-                    }
-                    for (int more = y.count(10); more > x.count(10); more--) {
-                        y.undo();
                     }
                 }));
             }

@@ -58,4 +58,26 @@ final class Play {
         stages.put("all is done", x -> toTheEnd(x, 4));
         return stages;
     }
+
+    /**
+     * The same stage with votes, targets, a text, a snapshot of another state, and a full history,
+     * so that it can be seen whichever of them is changed.
+     */
+    static Check.Setup rich(Check.Setup stage) {
+        return x -> {
+            x.setVotes(0, 3, 1);
+            x.setVotes(7, 0, 4);
+            x.setVotes(35, 6, 2);
+            Check.write(x, "12,34");
+            x.begin(9);
+            x.snake(true);
+            x.keep();
+            x.begin(4);
+            stage.on(x);
+            x.setTarget(0, 2);
+            x.setVotes(35, 5, 2);
+            x.setVotes(1, 2, 2);
+            x.setTarget(1, 7);
+        };
+    }
 }
