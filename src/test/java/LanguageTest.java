@@ -24,6 +24,8 @@ public final class LanguageTest {
         words(source);
         face();
         nested();
+        lengths(source);
+        fields();
         Check.end("LanguageTest");
     }
 
@@ -84,5 +86,32 @@ public final class LanguageTest {
                     !Set.of("equals", "hashCode", "toString").contains(method.getName()));
             }
         }
+    }
+
+    /** Counts the lines from each head of a method or constructor to the brace that stands under it. */
+    private static void lengths(String source) {
+        Matcher matcher = Pattern.compile("(?ms)^( {4}| {8})(\\w[^\n;=]*\\)) \\{\n(.*?)^\\1\\}$").matcher(source);
+        int methods = 0;
+        while (matcher.find()) {
+            long lines = matcher.group(3).lines().count();
+            Check.isTrue("LANGUAGE 11: " + lines + " lines of " + matcher.group(2), lines <= 60);
+            methods++;
+        }
+        Check.isTrue("LANGUAGE 11: the methods were found", methods > FACE.size());
+    }
+
+    private static void fields() {
+        few(FrozenDistricts.class);
+        for (Class<?> type : FrozenDistricts.class.getDeclaredClasses()) {
+            few(type);
+        }
+    }
+
+    private static void few(Class<?> type) {
+        int fields = 0;
+        for (Field field : type.getDeclaredFields()) {
+            fields += Modifier.isStatic(field.getModifiers()) ? 0 : 1;
+        }
+        Check.isTrue("LANGUAGE 11: " + fields + " fields of " + type, fields <= 20);
     }
 }
